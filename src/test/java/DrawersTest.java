@@ -141,9 +141,10 @@ public final class DrawersTest {
         DUE.holds("not same(0, 1): another place", !x.same(0, 1));
         x.bits(1, 1);
         DUE.holds("same(0, 1) again", x.same(0, 1));
-        while (x.told(0, 1) == 0) {
+        for (int i = 0; i < 50; i++) {
             x.below(0, 5);
         }
+        DUE.holds("REJECTED is another", x.told(0, 1) != x.told(1, 1));
         x.place(0, 1);
         DUE.holds("same(0, 1), REJECTED being another", x.same(0, 1));
     }

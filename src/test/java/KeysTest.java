@@ -10,6 +10,7 @@ public final class KeysTest {
         knownWords();
         wordsByPlace();
         wordEdges();
+        oneApart();
         DUE.end();
     }
 
@@ -134,5 +135,50 @@ public final class KeysTest {
         DUE.is("word(0, least, 0)", x.word(0, Integer.MIN_VALUE, 0), DrawStreams.BAD);
         DUE.is("word(0, 0, -1)", x.word(0, 0, -1), DrawStreams.BAD);
         DUE.is("word(0, 0, least)", x.word(0, 0, Long.MIN_VALUE), DrawStreams.BAD);
+    }
+
+    /** Askings that differ in the key alone, the stream alone, the sort alone, the place alone. */
+    private static void oneApart() {
+        DrawStreams x = new DrawStreams();
+        long[] keys = {0, 6, 7};
+        for (long k : keys) {
+            x.key(k);
+        }
+        int[][] asked = {{1, 0}, {0, 0}, {0, 2}, {0, 0}, {0, 2}, {0, 3}, {1, 3}, {2, 3}, {0, 3}, {1, 3}, {1, 0}, {0, 0}, {2, 0}, {2, 1}};
+        for (int i = 0; i < 8; i++) {
+            for (int[] a : asked) {
+                DUE.is("word(" + a[0] + ", " + a[1] + ", " + i + ")", x.word(a[0], a[1], i), Model.wordOf(keys[a[0]], a[1], i));
+            }
+        }
+        int[] split = Model.four(6, 0, 1, 0);
+        int[] walked = Model.four(6, 0, 2, 0);
+        DUE.holds("the sorts differ", split[0] != walked[0]);
+        for (int round = 0; round < 3; round++) {
+            DUE.is("a word", x.word(1, 0, 0), Model.wordOf(6, 0, 0));
+            DUE.is("a split behind it", x.bitsOf(x.split(1, 0)), ((long) split[0] << 32) | (split[1] & 0xFFFFFFFFL));
+            DUE.is("a word behind that", x.word(1, 0, 0), Model.wordOf(6, 0, 0));
+            DUE.is("a secret place", x.secret(1, 0, 4, 0), new Order(6).place(0));
+            DUE.is("a word behind that", x.word(1, 0, 0), Model.wordOf(6, 0, 0));
+        }
+    }
+
+    /** The secret order of 4 by a key, stream 0: one walk of one bit a part. */
+    private static final class Order {
+        private final long key;
+
+        Order(long key) {
+            this.key = key;
+        }
+
+        int place(int i) {
+            int left = i / 2;
+            int right = i % 2;
+            for (long j = 0; j < 6; j++) {
+                int kept = right;
+                right = left ^ (Model.four(key, 0, 2, (j << 32) + right)[0] & 1);
+                left = kept;
+            }
+            return 2 * left + right;
+        }
     }
 }

@@ -45,6 +45,10 @@ public final class RowTest {
         isRow("subset(0, 10, 4)", x, 0, 2, 3, 5);
         DUE.is("subset(0, 3, 3)", x.subset(0, 3, 3), 3);
         isRow("subset(0, 3, 3)", x, 0, 1, 2);
+        x.permutation(0, 200);
+        x.place(0, 0);
+        DUE.is("permutation(0, 6) behind other rows", x.permutation(0, 6), 6);
+        isRow("permutation(0, 6) behind other rows", x, 1, 3, 4, 5, 2, 0);
     }
 
     /** BELOW by the words of the stream, from this test's own place on. */

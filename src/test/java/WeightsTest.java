@@ -83,16 +83,17 @@ public final class WeightsTest {
         x.weight(31, 2);
         x.weight(0, 1);
         long rejected = x.told(0, 1);
-        while (x.told(0, 1) == rejected) {
-            long v = Model.wordOf(50, 0, x.told(0, 0)) >> 30;
-            int want = v == 0 ? 0 : 31;
-            if (v == 3) {
-                x.choose(0);
-            } else {
-                DUE.is("choose(0)", x.choose(0), want);
+        for (int i = 0; i < 60; i++) {
+            long place = x.told(0, 0);
+            while (Model.wordOf(50, 0, place) >> 30 == 3) {
+                place++;
+                rejected++;
             }
+            DUE.is("choose(0)", x.choose(0), Model.wordOf(50, 0, place) >> 30 == 0 ? 0 : 31);
+            DUE.is("PLACE", x.told(0, 0), place + 1);
+            DUE.is("REJECTED", x.told(0, 1), rejected);
         }
-        DUE.holds("a choice rejects too", x.told(0, 1) > rejected);
+        DUE.holds("a choice rejects too", rejected > 5);
     }
 
     private static void greatWeights() {
