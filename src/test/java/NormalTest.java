@@ -6,6 +6,7 @@ public final class NormalTest {
         knownNormals();
         refused();
         ties();
+        halves();
         likeTheModel();
         likeTheBell();
         DUE.end();
@@ -34,23 +35,30 @@ public final class NormalTest {
 
     /** Places, found by search, where two first digits are alike: the ones behind them tell. */
     private static void ties() {
-        // Of HALF: the two digits behind are b's and a's; b is LESS there, and then is not.
-        like(1, 0, 90368549948L, 351157760L, 351157760L);
-        like(1, 0, 103954776844L, 1554829285L, 1554829285L);
+        // Of HALF: the digits behind are b's and a's. At the first place b is LESS by them, at the second not.
+        long[] ofHalf = {90368549948L, 103954776844L};
+        for (long place : ofHalf) {
+            DUE.is("two digits alike", Model.wordOf(1, 0, place), Model.wordOf(1, 0, place + 1));
+            DUE.holds("HALF goes on there", Model.wordOf(1, 0, place) < 2147483648L);
+            likeTheModelFrom(1, 0, place);
+        }
         // Of the chain, HALF being false at once: z and x have like first digits.
-        likeFrom(1, 0, 12592213376L, 2);
-        likeFrom(1, 0, 14369044368L, 2);
-        likeFrom(1, 0, 35734458924L, 2);
+        long[] ofChain = {12592213376L, 14369044368L, 35734458924L};
+        for (long place : ofChain) {
+            DUE.is("two digits alike", Model.wordOf(1, 0, place + 2), Model.wordOf(1, 0, place + 3));
+            likeTheModelFrom(1, 0, place);
+        }
     }
 
-    private static void like(long key, int stream, long place, long one, long other) {
-        DUE.is("the word there", Model.wordOf(key, stream, place), one);
-        DUE.is("the word behind it", Model.wordOf(key, stream, place + 1), other);
-        likeFrom(key, stream, place, 0);
+    /** Places, found by search, with the first digit at which HALF is true at once, and the one before it. */
+    private static void halves() {
+        DUE.is("the digit of a half", Model.wordOf(1, 0, 6980200512L), 2147483648L);
+        likeTheModelFrom(1, 0, 6980200512L);
+        DUE.is("the digit before", Model.wordOf(1, 0, 3036154571L), 2147483647L);
+        likeTheModelFrom(1, 0, 3036154571L);
     }
 
-    private static void likeFrom(long key, int stream, long place, int first) {
-        DUE.is("a tie", Model.wordOf(key, stream, place + first), Model.wordOf(key, stream, place + first + 1));
+    private static void likeTheModelFrom(long key, int stream, long place) {
         DrawStreams x = new DrawStreams();
         Model y = new Model();
         x.key(key);
