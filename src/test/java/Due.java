@@ -1,11 +1,25 @@
 /** Counts answers against those that are due, prints each wrong one, and ends with exit code 1 for them. */
 final class Due {
+    private static final long MOST_SECONDS = 300;
+
     private final String name;
     private int right;
     private int wrong;
+    private int sentences;
+    private String sentence;
+    private int answersBefore;
 
     Due(String name) {
         this.name = name;
+        watch();
+    }
+
+    /** From here on the answers are about this sentence of the document, which has one at least. */
+    void sentence(String words) {
+        closeSentence();
+        sentence = words;
+        sentences++;
+        answersBefore = right + wrong;
     }
 
     void is(String call, long got, long want) {
@@ -14,6 +28,10 @@ final class Due {
 
     void isReal(String call, double got, double want) {
         note(got == want, call + " answered " + got + ", due is " + want);
+    }
+
+    void isText(String call, String got, String want) {
+        note(got.equals(want), call + " answered " + got + ", due is " + want);
     }
 
     void holds(String what, boolean so) {
@@ -26,9 +44,16 @@ final class Due {
         try {
             run.run();
         } catch (RuntimeException e) {
-            got = e.getClass().getSimpleName();
+            got = nameOf(e);
         }
         note(got.equals(want), call + " threw " + got + ", due is " + want);
+    }
+
+    /** An exception's name; one that the machine throws, which the class never lets it do, is told as such. */
+    static String nameOf(RuntimeException e) {
+        String text = "" + e.getMessage();
+        boolean byMachine = text.contains("out of bounds for length") || text.contains("by zero") || text.contains("because");
+        return e.getClass().getSimpleName() + (byMachine ? " of the machine" : "");
     }
 
     boolean anyWrong() {
@@ -36,9 +61,17 @@ final class Due {
     }
 
     void end() {
-        System.out.println(name + ": " + right + " answers as due, " + wrong + " not");
+        closeSentence();
+        String told = sentences > 0 ? sentences + " sentences, " : "";
+        System.out.println(name + ": " + told + right + " answers as due, " + wrong + " not");
         if (wrong > 0 || right == 0) {
             System.exit(1);
+        }
+    }
+
+    private void closeSentence() {
+        if (sentence != null && right + wrong == answersBefore) {
+            note(false, "no call at all");
         }
     }
 
@@ -48,8 +81,23 @@ final class Due {
         } else {
             wrong++;
             if (wrong <= 50) {
-                System.out.println(name + ": " + otherwise);
+                System.out.println(name + ": " + (sentence == null ? "" : "\"" + sentence + "\": ") + otherwise);
             }
         }
+    }
+
+    // A call that does not end is a fault too, and must not hold up the tests behind it.
+    private void watch() {
+        Thread watcher = new Thread(() -> {
+            try {
+                Thread.sleep(MOST_SECONDS * 1000);
+            } catch (InterruptedException e) {
+                return;
+            }
+            System.out.println(name + ": not at its end after " + MOST_SECONDS + " seconds");
+            Runtime.getRuntime().halt(1);
+        });
+        watcher.setDaemon(true);
+        watcher.start();
     }
 }

@@ -57,10 +57,8 @@ public final class RunsTest {
     private String answer(int kind, boolean ofClass) {
         try {
             return kind < 9 ? early(kind, ofClass) : kind < 17 ? drawn(kind, ofClass) : late(kind, ofClass);
-        } catch (ArithmeticException e) {
-            return "throws.ArithmeticException";
-        } catch (ArrayIndexOutOfBoundsException e) {
-            return "throws.ArrayIndexOutOfBoundsException";
+        } catch (ArithmeticException | ArrayIndexOutOfBoundsException e) {
+            return "throws." + Due.nameOf(e);
         }
     }
 
