@@ -14,6 +14,7 @@ public final class TermsEdgesTest {
     private static final long PLACE_OF_MOST = 6845800136L;
 
     public static void main(String[] args) {
+        calls();
         keys();
         words();
         rounds();
@@ -29,6 +30,25 @@ public final class TermsEdgesTest {
         secretWalks();
         theRow();
         DUE.end();
+    }
+
+    private static void calls() {
+        DUE.sentence("An object is used for at most 512 calls after it has been made");
+        DrawStreams x = new DrawStreams();
+        x.key(1);
+        x.drawer(0, 0);
+        for (int call = 3; call < 511; call++) {
+            x.normal(0);
+        }
+        DUE.is("the 511th call", x.normal(0), 883854056L);
+        DUE.is("the 512th call", x.normal(0), 2758863313L);
+        DrawStreams y = new DrawStreams();
+        y.key(1);
+        y.drawer(0, 0);
+        for (int call = 3; call < 512; call++) {
+            y.hits(0, 1, 3, 1000);
+        }
+        DUE.is("the 512th call", y.told(0, 0), 509000);
     }
 
     private static void keys() {
@@ -77,6 +97,11 @@ public final class TermsEdgesTest {
         DUE.is("the last one", x.word(0, 0, 17179869183L), 1778383437L);
         DUE.is("the first word of b = 2 to the 32", x.word(0, 0, 17179869184L), 2202007772L);
         DUE.is("the last word of all", x.word(0, 0, Long.MAX_VALUE), 2211023685L);
+        DUE.sentence("p is 3528531795 x0, q 3449720151 x2 (64 bits each)");
+        long[] ofGreatest = {2225462629L, 3965941779L, 1511991007L, 127004185L};
+        for (int i = 0; i < 4; i++) {
+            DUE.is("word " + i + " of b = 4294967295, stream most", x.word(0, MOST, 17179869180L + i), ofGreatest[i]);
+        }
         DUE.sentence("WORD i of a STREAM is x(i % 4) of b = i / 4, of sort 0");
         long[] first = {3823634032L, 3842641596L, 2515673792L, 3054873127L, 2886210587L, 3754282174L, 2042657351L, 2817941651L, 1062581232L};
         for (int i = first.length - 1; i >= 0; i--) {
