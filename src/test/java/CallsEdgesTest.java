@@ -57,11 +57,11 @@ public final class CallsEdgesTest {
         }
     }
 
-    /** An object with 16 keys, each of which has its number as its bits. */
+    /** An object with 16 keys, none of which has its number as its bits. */
     private static DrawStreams fullOfKeys() {
         DrawStreams x = new DrawStreams();
         for (int i = 0; i < 16; i++) {
-            x.key(i);
+            x.key(100 + i);
         }
         return x;
     }
@@ -177,6 +177,14 @@ public final class CallsEdgesTest {
         for (int what = 0; what < 4; what++) {
             DUE.is("told(0, " + what + ")", x.told(0, what), all[what]);
         }
+        DrawStreams y = new DrawStreams();
+        y.key(5);
+        y.key(5);
+        y.split(0, 0);
+        for (int k = 2; k >= 0; k--) {
+            y.drawer(k, 0);
+            DUE.is("the KEY of a drawer of key " + k + ": its number", y.told(2 - k, 2), k);
+        }
         DUE.sentence("8: BAD.");
         int[] wrong = {-1, 4, LEAST, MOST};
         for (int what : wrong) {
@@ -253,6 +261,9 @@ public final class CallsEdgesTest {
         DUE.isThrown("below(0, 0)", () -> x.below(0, 0), "ArithmeticException");
         DUE.is("told(0, 0)", x.told(0, 0), 0);
         DUE.is("told(0, 1)", x.told(0, 1), 0);
+        for (int d : NO_SUCH) {
+            DUE.is("below(" + d + ", 0): BAD is told first", x.below(d, 0), BAD);
+        }
         DUE.is("below(0, 1)", x.below(0, 1), 0);
         DUE.is("below(0, most)", x.below(0, Long.MAX_VALUE), 8211191561577629534L);
     }

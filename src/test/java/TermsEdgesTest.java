@@ -17,6 +17,7 @@ public final class TermsEdgesTest {
         calls();
         keys();
         words();
+        sorts();
         rounds();
         drawers();
         places();
@@ -27,6 +28,7 @@ public final class TermsEdgesTest {
         coinsAlike();
         secretBounds();
         secretWidths();
+        secretRounds();
         secretWalks();
         theRow();
         DUE.end();
@@ -107,6 +109,23 @@ public final class TermsEdgesTest {
         for (int i = first.length - 1; i >= 0; i--) {
             DUE.is("word " + i, x.word(0, 0, i), first[i]);
         }
+    }
+
+    private static void sorts() {
+        DUE.sentence("x2 the STREAM, x3 the sort");
+        DrawStreams x = new DrawStreams();
+        x.key(0);
+        long[] ofStream1 = {2219120097L, 4035800746L, 253345875L, 2214098416L};
+        for (int i = 0; i < 4; i++) {
+            DUE.is("word " + i + " of stream 1, sort 0", x.word(0, 1, i), ofStream1[i]);
+        }
+        x.split(0, 0);
+        DUE.is("part 0, sort 1", x.bitsOf(1), 3300703004617400895L);
+        DUE.is("place of 0 of 4, sort 2", x.secret(0, 0, 4, 0), 2);
+        DUE.is("place of 1 of 4, sort 2, stream 5", x.secret(0, 5, 4, 1), 0);
+        DUE.sentence("then x0 is the highest 32 bits of q, xor x1, xor k0; x1 the lowest of q; "
+            + "x2 the highest of p, xor x3, xor k1; x3 the lowest of p (all by what was before)");
+        isFirst(0, 1713891541L, 3781805453L, 3159862348L, 2600524760L);
     }
 
     /** Parts of a key that become 0, or one less, when they are added to for the first time. */
@@ -313,6 +332,17 @@ public final class TermsEdgesTest {
         isPlaced(268435457, 0, 209356498);
         isPlaced(1073741823, 1073741822, 885160482);
         isPlaced(1073741824, 1073741823, 182997043);
+    }
+
+    private static void secretRounds() {
+        DUE.sentence("It is WALKED: six rounds j = 0 .. 5: left becomes the right one, right the left one xor "
+            + "the lowest m bits of x0, of sort 2, b = j 2 to the 32 and the right one.");
+        // Of all numbers below 4 to the 15: each is walked once.
+        int[] numbers = {1, 2, 32767, 32768, 32769, 536870912, 1073741822};
+        int[] places = {232531488, 1061448372, 8170950, 214385156, 824716501, 911274349, 885160482};
+        for (int i = 0; i < numbers.length; i++) {
+            isPlaced(1073741824, numbers[i], places[i]);
+        }
     }
 
     private static void secretWalks() {
